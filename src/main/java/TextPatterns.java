@@ -664,8 +664,8 @@ public final class TextPatterns {
     }
 
     /**
-     * Matches items at a place. The ways that are left are kept in rows, one choice an item at most;
-     * captures need no undoing, since a way that goes back before one comes through it again.
+     * Matches items at a place. The ways that are left are kept in rows, one choice an item at
+     * most; captures need no undoing, since a way that goes back before one comes through it again.
      */
     private static final class Matcher {
         private final int[] choiceItems = new int[MOST_ITEMS];
@@ -885,9 +885,10 @@ public final class TextPatterns {
 
         /** Goes back to the latest choice that has one more way, and takes that. */
         private int tryNextWay(Items items, Row text) {
-            for (; choices > 0; choices--) {
-                int answer = changeChoice(items, text, choices - 1);
+            for (int c = choices - 1; c >= 0; c--) {
+                int answer = changeChoice(items, text, c);
                 if (answer != NO) {
+                    choices = c + 1;
                     return answer;
                 }
             }

@@ -1,6 +1,6 @@
 import java.nio.charset.StandardCharsets;
 
-/** Counts the answers that are not as due, and talks to a TextPatterns in texts instead of bytes. */
+/** Counts the answers that are not as due, and types texts into a TextPatterns. */
 final class Checks {
     static final int TEXT = 0;
     static final int PATTERN = 1;

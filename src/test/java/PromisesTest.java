@@ -35,6 +35,7 @@ public final class PromisesTest {
         test.replacingKeepsAndDrops();
         test.looking();
         test.lookingTooLong();
+        test.lookingTooLongLast();
         test.theMatch();
         test.capturesOfTheMatch();
         test.resultBytes();
@@ -253,6 +254,10 @@ public final class PromisesTest {
         found("a", "%1", 0, "-2 -1..-1 looks 0");
         found("aa", "(a)%2", 0, "-2 -1..-1 looks 1");
         found("aa", "()%1", 0, "-2 -1..-1 looks 0");
+        TextPatterns x = Checks.of("aaa", "(a)(a)%2");
+        checks.due("two captures", x.find(0), 1);
+        Checks.set(x, 1, "(a)%2");
+        checks.due("an earlier pattern's capture is not there", x.find(0), WRONG);
         found("ii", "(((((((((i)))))))))%9", 0,
             "1 0..2" + " 0+1".repeat(9) + " looks 2");
     }
@@ -344,6 +349,9 @@ public final class PromisesTest {
         x.begin();
         x.next();
         checks.due("no match before", Checks.match(x), "0..0");
+        x.begin();
+        x.next();
+        checks.due("no match before, not that at 0 either", Checks.match(x), "0..0");
     }
 
     private void goingOn() {
@@ -422,6 +430,7 @@ public final class PromisesTest {
         replaced("x".repeat(9) + "ab", "a()b", "%1", 1, "1 xxxxxxxxx11");
         replaced("x".repeat(99) + "ab", "a()b", "%1", 1, "1 " + "x".repeat(99) + "101");
         replaced("ab", "(a)()(b)", "%3%2%1%0", 1, "1 b2aab");
+        replaced("ab", "a(x*)b", "<%1>", 1, "1 <>");
         replaced("a", "(((((((((a)))))))))", "%9", 1, "1 a");
         TextPatterns x = new TextPatterns();
         Checks.type(x, 0, "x".repeat(2500));
@@ -526,6 +535,26 @@ public final class PromisesTest {
         found(just, "a*b?$", 0, "1 545..545 looks 100000");
     }
 
+    /** The 100001st look is the last one that the pattern would make, and of each special item. */
+    private void lookingTooLongLast() {
+        // c: 2 looks; m a's up to the text's end: m of a*, m + 1 of the border.
+        String border = "c".repeat(388) + "a".repeat(314);
+        found(border, "a*%f[\1]", 0, "-4 -1..-1 looks 100000");
+        found(border, "a*%f[\1]", 1, "0 -1..-1 looks 99999");
+        // c: 3 looks; m a's up to the text's end: 1 of b?, m of a*, m of the pair's first byte.
+        String opening = "c".repeat(259) + "a".repeat(314);
+        found(opening, "b?a*%bxy", 0, "-4 -1..-1 looks 100000");
+        found(opening, "b?a*%bxy", 1, "0 -1..-1 looks 99998");
+        // n of a*, then the pair goes over 1, 2, .. n bytes.
+        found("a".repeat(445), "^a*%bac", 0, "0 -1..-1 looks 99680");
+        found("a".repeat(446), "^a*%bac", 0, "-4 -1..-1 looks 100000");
+        // The capture's 139 bytes are looked for from each place back to that behind the c.
+        String had = "a".repeat(139);
+        String same = had + "c" + ("a".repeat(138) + "d").repeat(11) + "d".repeat(6);
+        found(same, "^(" + had + ")c.*%1", 0, "0 -1..-1 looks 99927");
+        found(same + "d", "^(" + had + ")c.*%1", 0, "-4 -1..-1 looks 100000");
+    }
+
     private void theMatch() {
         TextPatterns x = Checks.of("one two", "%a+");
         x.find(2);
@@ -565,6 +594,8 @@ public final class PromisesTest {
         }
         Checks.set(x, 1, "a");
         checks.due("dropped", x.captures(), BAD);
+        checks.due("dropped", x.capture(0, 0), BAD);
+        checks.due("dropped", x.capture(0, 1), BAD);
         x.find(0);
         checks.due("none in it", x.captures(), 0);
         checks.due("none in it", x.capture(0, 0), BAD);

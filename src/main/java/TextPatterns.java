@@ -450,8 +450,9 @@ public final class TextPatterns {
 
         /** The bits of the bytes from .. to that lie in that word; none if from is above to. */
         private static long spanBits(int from, int to, int word) {
-            int low = Math.max(from - word * WORD_BITS, 0);
-            int high = Math.min(to - word * WORD_BITS, WORD_BITS - 1);
+            int base = word * WORD_BITS;
+            int low = from > base ? from - base : 0;
+            int high = to < base + WORD_BITS ? to - base : WORD_BITS - 1;
             if (low > high) {
                 return 0;
             }

@@ -1,4 +1,6 @@
 import java.nio.charset.StandardCharsets;
+import java.util.ArrayList;
+import java.util.List;
 
 /** Counts the answers that are not as due, and types texts into a TextPatterns. */
 final class Checks {
@@ -23,6 +25,35 @@ final class Checks {
             wrong++;
             System.out.println(what + " answered \"" + got + "\", due is \"" + want + "\"");
         }
+    }
+
+    /** find(from) on a new object is due to tell this line (see found()). */
+    void dueFound(String text, String pattern, int from, String want) {
+        due("find(" + from + ") of " + pattern + " in " + text, found(text, pattern, from), want);
+    }
+
+    /** replace(most) on a new object is due to tell this line (see replaced()). */
+    void dueReplaced(String text, String pattern, String by, int most, String want) {
+        due("replace(" + most + ") of " + pattern + " by " + by + " in " + text,
+            replaced(text, pattern, by, most), want);
+    }
+
+    /** The bytes that single() says are in the pattern are due to be these spans, or "wrong". */
+    void dueBytes(String pattern, String want) {
+        TextPatterns x = of("", pattern);
+        List<String> spans = new ArrayList<>();
+        int from = -1;
+        for (int b = 0; b <= 256; b++) {
+            boolean in = b < 256 && x.single(b) == 1;
+            if (in && from < 0) {
+                from = b;
+            } else if (!in && from >= 0) {
+                spans.add(from == b - 1 ? "" + from : from + "-" + (b - 1));
+                from = -1;
+            }
+        }
+        String got = x.single(0) == TextPatterns.WRONG ? "wrong" : String.join(" ", spans);
+        due("bytes of " + pattern, got, want);
     }
 
     int wrongSoFar() {
@@ -85,6 +116,11 @@ final class Checks {
             s.append(' ').append(x.capture(k, 0)).append('+').append(x.capture(k, 1));
         }
         return s.toString();
+    }
+
+    /** What the calls that only ask tell of the match, the looks and the result, in one line. */
+    static String state(TextPatterns x) {
+        return match(x) + " looks " + x.looks() + " result " + result(x);
     }
 
     /** find(from) on a new object: its answer, the match and the looks in one line. */

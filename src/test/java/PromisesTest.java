@@ -46,31 +46,15 @@ public final class PromisesTest {
     }
 
     private void found(String text, String pattern, int from, String want) {
-        checks.due("find(" + from + ") of " + pattern + " in " + text,
-            Checks.found(text, pattern, from), want);
+        checks.dueFound(text, pattern, from, want);
     }
 
     private void replaced(String text, String pattern, String by, int most, String want) {
-        checks.due("replace(" + most + ") of " + pattern + " by " + by + " in " + text,
-            Checks.replaced(text, pattern, by, most), want);
+        checks.dueReplaced(text, pattern, by, most, want);
     }
 
-    /** Which bytes single() says are in the pattern, as spans. */
     private void holds(String pattern, String want) {
-        TextPatterns x = Checks.of("", pattern);
-        StringBuilder spans = new StringBuilder();
-        for (int b = 0; b < 256; b++) {
-            boolean in = x.single(b) == 1;
-            boolean before = b > 0 && x.single(b - 1) == 1;
-            boolean after = b < 255 && x.single(b + 1) == 1;
-            if (in && !before) {
-                spans.append(spans.length() == 0 ? "" : " ").append(b);
-            }
-            if (in && before && !after) {
-                spans.append('-').append(b);
-            }
-        }
-        checks.due("bytes of " + pattern, spans.toString(), want);
+        checks.dueBytes(pattern, want);
     }
 
     private void newObject() {
